@@ -31,6 +31,9 @@ public final class Biglaws {
     /** The most that is spelt is a sign - and 499 digits by the radix 2. */
     private static final int SPELT_SIGNS = 512;
 
+    /** 2 to the power of this has 151 decimal digits, and greater numbers are too long sooner. */
+    private static final int TOO_LONG_POWER = 499;
+
     /** Far above the steps that any division chain or approximation of such numbers takes. */
     private static final int MOST_STEPS = 100000;
 
@@ -496,7 +499,7 @@ public final class Biglaws {
      * power of 30, the lowest one first. All limbs from count on are 0, the one ahead of them is not.
      */
     private static final class Whole {
-        final int[] limbs = new int[LIMBS];
+        private final int[] limbs = new int[LIMBS];
         int count;
         int sign;
 
@@ -868,9 +871,12 @@ public final class Biglaws {
 
         /** Puts a power by n, not below 0, or the first one on the way to it that is too long. */
         void putPower(Whole out, Whole a, int n) {
-            // The powers of -1, 0 and 1 come again after two; all others grow too long within 500.
             boolean growing = a.count > 1 || a.limb(0) > 1;
-            int times = growing || n < 2 ? n : 2 - n % 2;
+            int times = Math.min(n, TOO_LONG_POWER);
+            if (!growing && n >= 2) {
+                // The powers of -1, 0 and 1 come again after two.
+                times = 2 - n % 2;
+            }
             out.assignLong(1);
             for (int i = 0; i < times && !isTooLong(out); i++) {
                 product.putProduct(out, a);
