@@ -997,7 +997,7 @@ public final class Biglaws {
             left.assign(number);
             count = 0;
             putSign(digitSign(left.reduce(radix)));
-            while (left.count > 0 && count < signs.length) {
+            for (int i = 1; i < SPELT_SIGNS && left.count > 0; i++) {
                 putSign(digitSign(left.reduce(radix)));
             }
             if (number.sign < 0) {

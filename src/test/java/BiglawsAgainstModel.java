@@ -9,6 +9,8 @@ import java.util.Random;
 public final class BiglawsAgainstModel {
     private static final BigInteger LIMIT = BigInteger.TEN.pow(150);
     private static final int RUNS = 6000;
+
+    /** How many calls of one object are promised. */
     private static final int CALLS = 512;
     private static final int METHODS = 44;
 
@@ -276,6 +278,7 @@ public final class BiglawsAgainstModel {
 
     private final Random random;
     private int wrong;
+    private int used;
     private final int[] answered = new int[METHODS];
     private final int[] refused = new int[METHODS];
 
@@ -332,7 +335,7 @@ public final class BiglawsAgainstModel {
     }
 
     /** Puts a drawn number by its text, so that registers hold great ones. */
-    private int load(Biglaws x, Model model, int spread) {
+    private void load(Biglaws x, Model model, int spread) {
         int radix = 2 + random.nextInt(35);
         String text = edgy().toString(radix);
         if (text.length() > 150) {
@@ -342,12 +345,12 @@ public final class BiglawsAgainstModel {
         compare(x, model, 2, 0, 0, 0, 0, 0, ' ');
         typeText(x, model, random.nextBoolean() ? text : text.toUpperCase());
         compare(x, model, 4, random.nextInt(spread), radix, 0, 0, 0, ' ');
-        return text.length() + 2;
     }
 
     private void compare(Biglaws x, Model model, int method, int p, int q, int r, int s, long number, char sign) {
         String want = toldByModel(() -> model.call(method, p, q, r, s, number, sign));
         String got = told(() -> call(x, method, p, q, r, s, number, sign));
+        used++;
         if (want.startsWith("java")) {
             refused[method]++;
         } else {
@@ -384,17 +387,25 @@ public final class BiglawsAgainstModel {
         compare(x, model, method, register(spread), q, r, s, number(), drawnSign());
     }
 
+    /** Reads whole registers for as long as calls are promised. */
     private void finish(Biglaws x, Model model) {
+        int first = random.nextInt(16);
         for (int i = 0; i < 16; i++) {
+            int register = (first + i) % 16;
             int radix = 2 + random.nextInt(35);
-            StringBuilder text = new StringBuilder();
-            int signs = x.lengthBy(i, radix);
-            for (int k = 0; k < signs; k++) {
-                text.append(x.signBy(i, radix, k));
+            String want = model.registers[register].toString(radix);
+            used += want.length() + 1;
+            if (used > CALLS) {
+                return;
             }
-            if (!text.toString().equals(model.registers[i].toString(radix))) {
+            StringBuilder text = new StringBuilder();
+            int signs = x.lengthBy(register, radix);
+            for (int k = 0; k < want.length() && k < signs; k++) {
+                text.append(x.signBy(register, radix, k));
+            }
+            if (signs != want.length() || !text.toString().equals(want)) {
                 wrong++;
-                System.out.println("register " + i + " has " + text + ", due is " + model.registers[i].toString(radix));
+                System.out.println("register " + register + " has " + text + ", due is " + want);
             }
         }
     }
@@ -404,13 +415,13 @@ public final class BiglawsAgainstModel {
         Model model = new Model();
         int spread = 1 + random.nextInt(16);
         int loading = 1 + random.nextInt(40);
-        int calls = 0;
-        while (calls < CALLS) {
-            if (random.nextInt(loading) == 0) {
-                calls += load(x, model, spread);
+        int drawn = 100 + random.nextInt(CALLS - 99);
+        used = 0;
+        while (used < drawn) {
+            if (random.nextInt(loading) == 0 && used < CALLS - 160) {
+                load(x, model, spread);
             } else {
                 drawnCall(x, model, spread);
-                calls++;
             }
         }
         finish(x, model);
