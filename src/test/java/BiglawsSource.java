@@ -21,6 +21,11 @@ public final class BiglawsSource {
         "->", "::", "\\btry\\b", "\\bcatch\\b", "\\bfinally\\b", "\\bsynchronized\\b", "\\bassert\\b",
         "\\bBigInteger\\b", "\\binstanceof\\b", "\\bstatic\\s*\\{", "Exact\\(\\s*\\w+\\s*,", "\\bSystem\\.", "\\bThread\\b",
         "\\.equals\\(", "\\bhashCode\\b", "\\btoString\\b", "\\bprotected\\b", "\\bvar\\b", "\\bpackage\\b", "\\?\\s*extends"};
+
+    /** Those of LANGUAGE.md's rule 6 that the document names, and NumberFormatException, which it names besides. */
+    private static final Set<String> THROWN = Set.of("IllegalStateException", "IllegalArgumentException", "IndexOutOfBoundsException",
+            "ArithmeticException", "NoSuchElementException", "NumberFormatException");
+
     private static int wrong = 0;
 
     private static void wrong(String what) {
@@ -42,6 +47,15 @@ public final class BiglawsSource {
         while (imports.find()) {
             if (!imports.group(1).equals("java.util.NoSuchElementException")) {
                 wrong("the source imports " + imports.group(1));
+            }
+        }
+    }
+
+    private static void checkThrown(String source) {
+        Matcher thrown = Pattern.compile("\\bthrow\\b\\s*(new\\s+(\\w+)\\s*\\((\"[^\"]*\")?\\);)?").matcher(source);
+        while (thrown.find()) {
+            if (thrown.group(2) == null || !THROWN.contains(thrown.group(2))) {
+                wrong("the source has " + thrown.group());
             }
         }
     }
@@ -132,7 +146,9 @@ public final class BiglawsSource {
     }
 
     public static void main(String[] args) throws IOException {
-        checkRuledOut(withoutComments(Files.readString(SOURCE)));
+        String source = withoutComments(Files.readString(SOURCE));
+        checkRuledOut(source);
+        checkThrown(source);
         Set<String> want = documentedFace(Files.readString(DOCUMENT));
         if (want.size() != 45 || !want.equals(face())) {
             Set<String> more = new TreeSet<>(face());
