@@ -612,8 +612,8 @@ public final class Biglaws {
             close(n, newSign);
         }
 
-        /** Here a is not the smaller one. */
-        private void subtractSizes(Whole a, Whole b, int newSign) {
+        /** Puts the size of a less that of b, where a is not the smaller one; either may be this one. */
+        void subtractSizes(Whole a, Whole b, int newSign) {
             int n = a.count;
             int carry = 0;
             for (int i = 0; i < n; i++) {
@@ -815,7 +815,8 @@ public final class Biglaws {
         void putResidue(Whole out, Whole a, Whole m) {
             split(a, m, quotient, out);
             if (out.sign < 0) {
-                out.putSum(out, m);
+                // Not by putSum(), which would open more calls at once than LANGUAGE.md's rule 11 leaves.
+                out.subtractSizes(m, out, 1);
             }
         }
 

@@ -102,6 +102,30 @@ public final class BiglawsSource {
         return all;
     }
 
+    /** The face is public, and nothing else that is not private or within a class inside. */
+    private static void checkModifiers() {
+        int modifiers = Biglaws.class.getModifiers();
+        if (!Modifier.isPublic(modifiers) || !Modifier.isFinal(modifiers) || Biglaws.class.getSuperclass() != Object.class) {
+            wrong("the class is not public and final, or extends another one");
+        }
+        List<Executable> members = new ArrayList<>(List.of(Biglaws.class.getDeclaredConstructors()));
+        members.addAll(List.of(Biglaws.class.getDeclaredMethods()));
+        for (Executable member : members) {
+            if (!Modifier.isPublic(member.getModifiers()) && !Modifier.isPrivate(member.getModifiers())) {
+                wrong(member + " is neither public nor private");
+            }
+            if (Modifier.isPublic(member.getModifiers()) && (Modifier.isStatic(member.getModifiers()) || member.isVarArgs())) {
+                wrong(member + " is static, or takes any number of arguments");
+            }
+        }
+        for (Class<?> each : Biglaws.class.getDeclaredClasses()) {
+            boolean isSeen = Modifier.isPublic(each.getModifiers()) || Modifier.isProtected(each.getModifiers());
+            if (isSeen || !Modifier.isStatic(each.getModifiers())) {
+                wrong(each + " is public or protected, or not static");
+            }
+        }
+    }
+
     private static void checkNames() {
         Set<String> names = new TreeSet<>();
         for (Method method : Biglaws.class.getDeclaredMethods()) {
@@ -156,6 +180,7 @@ public final class BiglawsSource {
             want.removeAll(face());
             wrong("the face lacks " + want + " and has more than it: " + more);
         }
+        checkModifiers();
         checkNames();
         System.out.println(wrong == 0 ? "the source keeps to the rules that are looked at" : wrong + " faults");
         if (wrong != 0) {
